@@ -1,5 +1,6 @@
 import java.util.NoSuchElementException;
 import java.util.function.IntSupplier;
+import java.util.function.ToIntFunction;
 
 /** Compares answers with the ones that are due, and counts those that are not. */
 final class Checks {
@@ -19,9 +20,9 @@ final class Checks {
   }
 
   /** The call must throw just this class, and all that can be read of x must be as before. */
-  void dueThrows(String what, Class<?> want, FrameRow x, IntSupplier call) {
+  void dueThrows(String what, Class<?> want, FrameRow x, ToIntFunction<FrameRow> call) {
     String before = readAll(x);
-    due(what, "throws." + want.getSimpleName(), answer(call));
+    due(what, "throws." + want.getSimpleName(), answer(() -> call.applyAsInt(x)));
     due("state after " + what, before, readAll(x));
   }
 

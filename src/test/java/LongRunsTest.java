@@ -2,7 +2,7 @@ import java.util.Random;
 
 /** Runs of 512 calls, the same ones each time, with each answer compared with the plain model's. */
 public final class LongRunsTest {
-  private static final int RUNS = 2000;
+  private static final int RUNS = 240;
   private static final int CALLS = 512;
   private static final int[] ODD = {
     -1, 4, 8, 24, 64, 65, 1000000, 1000001, Integer.MIN_VALUE, Integer.MAX_VALUE
