@@ -23,11 +23,13 @@ public final class PromisesTest {
     promise8Holds();
     promise9Root();
     promise10Turn();
+    promise10TurnAtTheEnds();
     promise10TurnWrongly();
     promise11Renew();
     promise11RenewDoesNotMixOldAndNew();
     promise11RenewForgetsFramesThatWent();
     promise12Count();
+    promise12CountOfDifferentValues();
     promise12CountOfCalls();
     allFramesThatThereCanBe();
     objectsAreApart();
@@ -320,6 +322,15 @@ public final class PromisesTest {
     due("turn: not in frames that went", 2, x.turn(1, 2));
   }
 
+  private static void promise10TurnAtTheEnds() {
+    FrameRow x = new FrameRow();
+    x.put(0, 0, 6);
+    x.put(0, 23, 6);
+    due("turn: first and last", 2, x.turn(6, 7));
+    due("turn: first in the order", 7, x.get(0, 0));
+    due("turn: last in the order", 7, x.get(0, 23));
+  }
+
   private static void promise10TurnWrongly() {
     for (int wrong : NO_VALUES) {
       wrongCall("turn(" + wrong + ", 1)", Checks.ARGUMENT, y -> y.turn(wrong, 1));
@@ -385,6 +396,20 @@ public final class PromisesTest {
     for (int wrong : noCounts) {
       wrongCall("count(" + wrong + ")", Checks.ARGUMENT, y -> y.count(wrong));
     }
+  }
+
+  private static void promise12CountOfDifferentValues() {
+    FrameRow x = new FrameRow();
+    x.put(0, 0, 6);
+    due("count: one value", 1, x.count(4));
+    x.put(0, 1, 6);
+    due("count: the same next to it", 1, x.count(4));
+    x.put(0, 23, 6);
+    due("count: the same in the last place", 1, x.count(4));
+    x.put(0, 22, 7);
+    due("count: another one", 2, x.count(4));
+    x.turn(6, 7);
+    due("count: both the same", 1, x.count(4));
   }
 
   private static void promise12CountOfCalls() {
