@@ -1,6 +1,4 @@
 import java.util.NoSuchElementException;
-import java.util.function.IntSupplier;
-import java.util.function.ToIntFunction;
 
 /** Compares answers with the ones that are due, and counts those that are not. */
 final class Checks {
@@ -19,51 +17,21 @@ final class Checks {
     }
   }
 
-  /** The call must throw just this class, and all that can be read of x must be as before. */
-  void dueThrows(String what, Class<?> want, FrameRow x, ToIntFunction<FrameRow> call) {
-    String before = readAll(x);
-    due(what, "throws." + want.getSimpleName(), answer(() -> call.applyAsInt(x)));
-    due("state after " + what, before, readAll(x));
+  /** The call must throw just this class; what it did to x is not looked at. */
+  void dueThrows(Class<?> want, Frames x, Call call) {
+    due(call.toString(), Call.thrown(want), call.on(x));
   }
 
-  static String answer(IntSupplier call) {
-    try {
-      return Integer.toString(call.getAsInt());
-    } catch (RuntimeException e) {
-      return "throws." + e.getClass().getSimpleName();
-    }
+  /** The call must throw just this class, and all that can be read must be as before. */
+  void dueRefused(Class<?> want, State state, Call call) {
+    due(call + " when " + state, Call.thrown(want), call.on(state.run()));
+    dueUnchanged(state, call);
   }
 
-  /** All slots in the order, the globals, and the counts. */
-  static String readAll(FrameRow x) {
-    StringBuilder text = new StringBuilder();
-    for (int mutator = 0; mutator < 4; mutator++) {
-      text.append("mutator ").append(mutator).append(':');
-      for (int frame = 0; hasFrame(x, mutator, frame); frame++) {
-        for (int slot = 0; slot < 8; slot++) {
-          text.append(' ').append(x.peek(mutator, frame, slot));
-        }
-        text.append(';');
-      }
-    }
-    text.append("globals:");
-    for (int at = 8; at < 24; at++) {
-      text.append(' ').append(x.get(0, at));
-    }
-    text.append("; counts:");
-    for (int what = 0; what < 5; what++) {
-      text.append(' ').append(x.count(what));
-    }
-    return text.toString();
-  }
-
-  private static boolean hasFrame(FrameRow x, int mutator, int frame) {
-    try {
-      x.peek(mutator, frame, 0);
-      return true;
-    } catch (NoSuchElementException e) {
-      return false;
-    }
+  /** The call must leave all that can be read as it was, whether it throws or not. */
+  void dueUnchanged(State state, Call call) {
+    due("what is read after " + call + " when " + state,
+        Reading.of(state::run), Reading.of(() -> state.runWith(call)));
   }
 
   void end() {

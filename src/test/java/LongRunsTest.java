@@ -3,12 +3,11 @@ import java.util.Random;
 /** Runs of 512 calls, the same ones each time, with each answer compared with the plain model's. */
 public final class LongRunsTest {
   private static final int RUNS = 240;
-  private static final int CALLS = 512;
   private static final int[] ODD = {
     -1, 4, 8, 24, 64, 65, 1000000, 1000001, Integer.MIN_VALUE, Integer.MAX_VALUE
   };
 
-  /** How often each method is called, by its number in step(), in runs of several kinds. */
+  /** How often each method is called, by its number in nextCall(), in runs of several kinds. */
   private static final int[][] KINDS = {
     {0, 1, 2, 3, 4, 5, 6, 7, 8, 9, 10},
     {0, 0, 0, 0, 0, 0, 0, 0, 0, 0, 0, 0, 4, 4, 5, 1, 6, 7, 10},
@@ -29,15 +28,17 @@ public final class LongRunsTest {
     Random random = new Random(run);
     int[] kind = KINDS[run % KINDS.length];
     int greatest = run % 3 == 0 ? 1000000 : 12;
-    FrameRow x = new FrameRow();
+    Run x = new Run();
     PlainModel model = new PlainModel();
-    for (int i = 0; i < CALLS; i++) {
-      step(run, kind[random.nextInt(kind.length)], greatest, random, x, model);
+    for (int i = 0; i < Run.MOST_CALLS; i++) {
+      int method = kind[random.nextInt(kind.length)];
+      Call call = nextCall(method, greatest, random, model);
+      checks.due("run " + run + ", call " + i + ": " + call, call.on(model), call.on(x));
     }
   }
 
-  private static void step(
-      int run, int method, int greatest, Random random, FrameRow x, PlainModel model) {
+  private static Call nextCall(
+      int method, int greatest, Random random, PlainModel model) {
     int m = pick(random, 4);
     int slot = pick(random, 8);
     int at = pick(random, 24);
@@ -46,55 +47,30 @@ public final class LongRunsTest {
     int frames = pick(random, model.count(2) + 1);
     int k = pick(random, model.count(1) + 2);
     int what = pick(random, 5);
-    String got;
-    String want;
     switch (method) {
       case 0:
-        got = Checks.answer(() -> x.call(m));
-        want = Checks.answer(() -> model.call(m));
-        break;
+        return Call.call(m);
       case 1:
-        got = Checks.answer(() -> x.leave(m, slot));
-        want = Checks.answer(() -> model.leave(m, slot));
-        break;
+        return Call.leave(m, slot);
       case 2:
-        got = Checks.answer(() -> x.cut(m, frames));
-        want = Checks.answer(() -> model.cut(m, frames));
-        break;
+        return Call.cut(m, frames);
       case 3:
-        got = Checks.answer(() -> x.get(m, at));
-        want = Checks.answer(() -> model.get(m, at));
-        break;
+        return Call.get(m, at);
       case 4:
-        got = Checks.answer(() -> x.put(m, at, v));
-        want = Checks.answer(() -> model.put(m, at, v));
-        break;
+        return Call.put(m, at, v);
       case 5:
-        got = Checks.answer(() -> x.peek(m, frames, slot));
-        want = Checks.answer(() -> model.peek(m, frames, slot));
-        break;
+        return Call.peek(m, frames, slot);
       case 6:
-        got = Checks.answer(() -> x.holds(v));
-        want = Checks.answer(() -> model.holds(v));
-        break;
+        return Call.holds(v);
       case 7:
-        got = Checks.answer(() -> x.root(k));
-        want = Checks.answer(() -> model.root(k));
-        break;
+        return Call.root(k);
       case 8:
-        got = Checks.answer(() -> x.turn(v, w));
-        want = Checks.answer(() -> model.turn(v, w));
-        break;
+        return Call.turn(v, w);
       case 9:
-        got = Checks.answer(x::renew);
-        want = Checks.answer(model::renew);
-        break;
+        return Call.renew();
       default:
-        got = Checks.answer(() -> x.count(what));
-        want = Checks.answer(() -> model.count(what));
-        break;
+        return Call.count(what);
     }
-    checks.due("run " + run + ", method " + method, want, got);
   }
 
   private static int pick(Random random, int bound) {

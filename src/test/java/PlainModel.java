@@ -6,7 +6,7 @@ import java.util.Map;
 import java.util.NoSuchElementException;
 
 /** The document's words in the plainest form, held otherwise than FrameRow holds them. */
-final class PlainModel {
+final class PlainModel implements Frames {
   private final List<List<int[]>> stacks = new ArrayList<>();
   private final int[] globals = new int[16];
   private int calls = 0;
@@ -17,7 +17,8 @@ final class PlainModel {
     }
   }
 
-  int call(int mutator) {
+  @Override
+  public int call(int mutator) {
     List<int[]> stack = stack(mutator);
     stateIf(stack.size() == 64);
     stack.add(new int[8]);
@@ -25,7 +26,8 @@ final class PlainModel {
     return stack.size();
   }
 
-  int leave(int mutator, int slot) {
+  @Override
+  public int leave(int mutator, int slot) {
     List<int[]> stack = stack(mutator);
     noSuchIf(slot < 0 || slot > 7);
     stateIf(stack.size() == 1);
@@ -34,7 +36,8 @@ final class PlainModel {
     return stack.size();
   }
 
-  int cut(int mutator, int frames) {
+  @Override
+  public int cut(int mutator, int frames) {
     List<int[]> stack = stack(mutator);
     noSuchIf(frames < 1 || stack.size() < frames);
     int went = stack.size() - frames;
@@ -42,13 +45,15 @@ final class PlainModel {
     return went;
   }
 
-  int get(int mutator, int at) {
+  @Override
+  public int get(int mutator, int at) {
     stack(mutator);
     noSuchIf(at < 0 || at > 23);
     return at < 8 ? upper(mutator)[at] : globals[at - 8];
   }
 
-  int put(int mutator, int at, int v) {
+  @Override
+  public int put(int mutator, int at, int v) {
     int before = get(mutator, at);
     argumentIf(isNoValue(v));
     if (at < 8) {
@@ -59,31 +64,36 @@ final class PlainModel {
     return before;
   }
 
-  int peek(int mutator, int frame, int slot) {
+  @Override
+  public int peek(int mutator, int frame, int slot) {
     List<int[]> stack = stack(mutator);
     noSuchIf(frame < 0 || frame >= stack.size() || slot < 0 || slot > 7);
     return stack.get(frame)[slot];
   }
 
-  int holds(int v) {
+  @Override
+  public int holds(int v) {
     argumentIf(isNoValue(v));
     return Collections.frequency(order(), v);
   }
 
-  int root(int k) {
+  @Override
+  public int root(int k) {
     argumentIf(k < 0);
     List<Integer> values = notNothing();
     return k < values.size() ? values.get(k) : 0;
   }
 
-  int turn(int v, int w) {
+  @Override
+  public int turn(int v, int w) {
     argumentIf(v == 0 || isNoValue(v) || isNoValue(w));
     int found = holds(v);
     change(Map.of(v, w));
     return found;
   }
 
-  int renew() {
+  @Override
+  public int renew() {
     Map<Integer, Integer> names = new LinkedHashMap<>();
     for (int value : notNothing()) {
       names.putIfAbsent(value, names.size() + 1);
@@ -92,7 +102,8 @@ final class PlainModel {
     return names.size();
   }
 
-  int count(int what) {
+  @Override
+  public int count(int what) {
     argumentIf(what < 0 || what > 4);
     int[] counts = {
       stacks.stream().mapToInt(List::size).sum(),

@@ -1,12 +1,5 @@
-import java.util.function.ToIntFunction;
-
 /** Each promise, by its number: ordinary inputs, the document's edges, wrong inputs. */
 public final class PromisesTest {
-  private static final int[] NO_MUTATORS = {-1, 4, Integer.MIN_VALUE, Integer.MAX_VALUE};
-  private static final int[] NO_SLOTS = {-1, 8, Integer.MIN_VALUE, Integer.MAX_VALUE};
-  private static final int[] NO_PLACES = {-1, 24, Integer.MIN_VALUE, Integer.MAX_VALUE};
-  private static final int[] NO_VALUES = {-1, 1000001, Integer.MIN_VALUE, Integer.MAX_VALUE};
-
   private static final Checks checks = new Checks();
 
   public static void main(String[] args) {
@@ -40,27 +33,8 @@ public final class PromisesTest {
     checks.due(what, want, got);
   }
 
-  /** Mutators 0 and 2 with two frames, and values in lower frames, upper frames and globals. */
-  private static FrameRow filled() {
-    FrameRow x = new FrameRow();
-    x.put(0, 1, 30);
-    x.put(2, 7, 20);
-    x.call(0);
-    x.call(2);
-    x.put(0, 0, 20);
-    x.put(1, 5, 10);
-    x.put(2, 3, 30);
-    x.put(3, 8, 40);
-    x.put(3, 23, 30);
-    return x;
-  }
-
-  private static void wrongCall(String what, Class<?> want, ToIntFunction<FrameRow> call) {
-    checks.dueThrows(what, want, filled(), call);
-  }
-
   private static void promise1NewObject() {
-    FrameRow x = new FrameRow();
+    Run x = new Run();
     for (int mutator = 0; mutator < 4; mutator++) {
       for (int at = 0; at < 24; at++) {
         due("new: get", 0, x.get(mutator, at));
@@ -68,9 +42,7 @@ public final class PromisesTest {
       for (int slot = 0; slot < 8; slot++) {
         due("new: peek", 0, x.peek(mutator, 0, slot));
       }
-      int m = mutator;
-      checks.due("new: peek 1", "throws.NoSuchElementException",
-          Checks.answer(() -> x.peek(m, 1, 0)));
+      checks.dueThrows(Checks.NO_SUCH, x, Call.peek(mutator, 1, 0));
     }
     due("new: frames", 4, x.count(0));
     due("new: not 0", 0, x.count(1));
@@ -83,7 +55,7 @@ public final class PromisesTest {
   }
 
   private static void promise2Call() {
-    FrameRow x = filled();
+    Run x = State.MIXED.run();
     due("call: third frame", 3, x.call(0));
     due("call: others keep theirs", 2, x.call(1));
     for (int slot = 0; slot < 8; slot++) {
@@ -98,19 +70,19 @@ public final class PromisesTest {
     x.cut(0, 2);
     x.call(0);
     due("call: 0 where a frame went", 0, x.get(0, 4));
-    for (int wrong : NO_MUTATORS) {
-      wrongCall("call(" + wrong + ")", Checks.NO_SUCH, y -> y.call(wrong));
+    for (int wrong : Wrong.MUTATORS) {
+      checks.dueRefused(Checks.NO_SUCH, State.MIXED, Call.call(wrong));
     }
   }
 
   private static void promise2CallAtTheLimit() {
-    FrameRow x = new FrameRow();
+    Run x = new Run();
     for (int frames = 2; frames <= 64; frames++) {
       due("call: frames", frames, x.call(3));
     }
     x.put(3, 7, 9);
     for (int again = 0; again < 2; again++) {
-      checks.due("call: 65th", "throws.IllegalStateException", Checks.answer(() -> x.call(3)));
+      checks.dueThrows(Checks.STATE, x, Call.call(3));
       due("call: none came", 67, x.count(0));
       due("call: none counted", 63, x.count(3));
       due("call: the upper one stays", 9, x.get(3, 7));
@@ -123,7 +95,7 @@ public final class PromisesTest {
 
   private static void promise3Leave() {
     for (int slot = 0; slot < 8; slot++) {
-      FrameRow x = new FrameRow();
+      Run x = new Run();
       for (int at = 0; at < 8; at++) {
         x.put(1, at, 100 + at);
         x.put(2, at, 300 + at);
@@ -146,7 +118,7 @@ public final class PromisesTest {
       due("leave: globals", 50, x.get(0, 8));
       due("leave: gone values are not counted", 17, x.count(1));
     }
-    FrameRow y = new FrameRow();
+    Run y = new Run();
     y.put(0, 0, 6);
     y.call(0);
     y.leave(0, 5);
@@ -154,19 +126,19 @@ public final class PromisesTest {
   }
 
   private static void promise3LeaveWrongly() {
-    for (int wrong : NO_MUTATORS) {
-      wrongCall("leave(" + wrong + ", 0)", Checks.NO_SUCH, y -> y.leave(wrong, 0));
+    for (int wrong : Wrong.MUTATORS) {
+      checks.dueRefused(Checks.NO_SUCH, State.MIXED, Call.leave(wrong, 0));
     }
-    for (int wrong : NO_SLOTS) {
-      wrongCall("leave(0, " + wrong + ")", Checks.NO_SUCH, y -> y.leave(0, wrong));
-      wrongCall("leave(1, " + wrong + ")", Checks.NO_SUCH, y -> y.leave(1, wrong));
+    for (int wrong : Wrong.SLOTS) {
+      checks.dueRefused(Checks.NO_SUCH, State.MIXED, Call.leave(0, wrong));
+      checks.dueRefused(Checks.NO_SUCH, State.MIXED, Call.leave(1, wrong));
     }
-    wrongCall("leave(1, 0)", Checks.STATE, y -> y.leave(1, 0));
-    wrongCall("leave(3, 7)", Checks.STATE, y -> y.leave(3, 7));
+    checks.dueRefused(Checks.STATE, State.MIXED, Call.leave(1, 0));
+    checks.dueRefused(Checks.STATE, State.MIXED, Call.leave(3, 7));
   }
 
   private static void promise4Cut() {
-    FrameRow x = new FrameRow();
+    Run x = new Run();
     for (int frame = 0; frame < 6; frame++) {
       x.put(1, 0, 10 + frame);
       x.put(1, 7, 20 + frame);
@@ -190,33 +162,32 @@ public final class PromisesTest {
   }
 
   private static void promise4CutWrongly() {
-    for (int wrong : NO_MUTATORS) {
-      wrongCall("cut(" + wrong + ", 1)", Checks.NO_SUCH, y -> y.cut(wrong, 1));
+    for (int wrong : Wrong.MUTATORS) {
+      checks.dueRefused(Checks.NO_SUCH, State.MIXED, Call.cut(wrong, 1));
     }
-    int[] noFrames = {0, -1, 3, 64, Integer.MIN_VALUE, Integer.MAX_VALUE};
-    for (int wrong : noFrames) {
-      wrongCall("cut(0, " + wrong + ")", Checks.NO_SUCH, y -> y.cut(0, wrong));
+    for (int wrong : Wrong.cutsBeyond(2)) {
+      checks.dueRefused(Checks.NO_SUCH, State.MIXED, Call.cut(0, wrong));
     }
   }
 
   private static void promise5Get() {
-    FrameRow x = filled();
+    Run x = State.MIXED.run();
     due("get: upper slot", 20, x.get(0, 0));
     due("get: lower slots are no places", 0, x.get(0, 1));
     for (int mutator = 0; mutator < 4; mutator++) {
       due("get: first global", 40, x.get(mutator, 8));
       due("get: last global", 30, x.get(mutator, 23));
     }
-    for (int wrong : NO_MUTATORS) {
-      wrongCall("get(" + wrong + ", 0)", Checks.NO_SUCH, y -> y.get(wrong, 0));
+    for (int wrong : Wrong.MUTATORS) {
+      checks.dueRefused(Checks.NO_SUCH, State.MIXED, Call.get(wrong, 0));
     }
-    for (int wrong : NO_PLACES) {
-      wrongCall("get(0, " + wrong + ")", Checks.NO_SUCH, y -> y.get(0, wrong));
+    for (int wrong : Wrong.PLACES) {
+      checks.dueRefused(Checks.NO_SUCH, State.MIXED, Call.get(0, wrong));
     }
   }
 
   private static void promise6Put() {
-    FrameRow x = new FrameRow();
+    Run x = new Run();
     for (int mutator = 0; mutator < 4; mutator++) {
       for (int at = 0; at < 8; at++) {
         due("put: slot was 0", 0, x.put(mutator, at, 1 + mutator * 8 + at));
@@ -240,41 +211,40 @@ public final class PromisesTest {
   }
 
   private static void putWrongly() {
-    for (int wrong : NO_MUTATORS) {
-      wrongCall("put(" + wrong + ", 0, 1)", Checks.NO_SUCH, y -> y.put(wrong, 0, 1));
-      wrongCall("put(" + wrong + ", 8, -1)", Checks.NO_SUCH, y -> y.put(wrong, 8, -1));
+    for (int wrong : Wrong.MUTATORS) {
+      checks.dueRefused(Checks.NO_SUCH, State.MIXED, Call.put(wrong, 0, 1));
+      checks.dueRefused(Checks.NO_SUCH, State.MIXED, Call.put(wrong, 8, -1));
     }
-    for (int wrong : NO_PLACES) {
-      wrongCall("put(0, " + wrong + ", 1)", Checks.NO_SUCH, y -> y.put(0, wrong, 1));
-      wrongCall("put(0, " + wrong + ", -1)", Checks.NO_SUCH, y -> y.put(0, wrong, -1));
+    for (int wrong : Wrong.PLACES) {
+      checks.dueRefused(Checks.NO_SUCH, State.MIXED, Call.put(0, wrong, 1));
+      checks.dueRefused(Checks.NO_SUCH, State.MIXED, Call.put(0, wrong, -1));
     }
-    for (int wrong : NO_VALUES) {
-      wrongCall("put(0, 0, " + wrong + ")", Checks.ARGUMENT, y -> y.put(0, 0, wrong));
-      wrongCall("put(0, 8, " + wrong + ")", Checks.ARGUMENT, y -> y.put(0, 8, wrong));
+    for (int wrong : Wrong.VALUES) {
+      checks.dueRefused(Checks.ARGUMENT, State.MIXED, Call.put(0, 0, wrong));
+      checks.dueRefused(Checks.ARGUMENT, State.MIXED, Call.put(0, 8, wrong));
     }
   }
 
   private static void promise7Peek() {
-    FrameRow x = filled();
+    Run x = State.MIXED.run();
     due("peek: lowest", 30, x.peek(0, 0, 1));
     due("peek: upper", 20, x.peek(0, 1, 0));
     due("peek: last slot", 20, x.peek(2, 0, 7));
     due("peek: as get", 30, x.peek(2, 1, 3));
-    for (int wrong : NO_MUTATORS) {
-      wrongCall("peek(" + wrong + ", 0, 0)", Checks.NO_SUCH, y -> y.peek(wrong, 0, 0));
+    for (int wrong : Wrong.MUTATORS) {
+      checks.dueRefused(Checks.NO_SUCH, State.MIXED, Call.peek(wrong, 0, 0));
     }
-    int[] noFrames = {-1, 2, 64, Integer.MIN_VALUE, Integer.MAX_VALUE};
-    for (int wrong : noFrames) {
-      wrongCall("peek(0, " + wrong + ", 0)", Checks.NO_SUCH, y -> y.peek(0, wrong, 0));
+    for (int wrong : Wrong.framesBeyond(2)) {
+      checks.dueRefused(Checks.NO_SUCH, State.MIXED, Call.peek(0, wrong, 0));
     }
-    wrongCall("peek(1, 1, 0)", Checks.NO_SUCH, y -> y.peek(1, 1, 0));
-    for (int wrong : NO_SLOTS) {
-      wrongCall("peek(0, 0, " + wrong + ")", Checks.NO_SUCH, y -> y.peek(0, 0, wrong));
+    checks.dueRefused(Checks.NO_SUCH, State.MIXED, Call.peek(1, 1, 0));
+    for (int wrong : Wrong.SLOTS) {
+      checks.dueRefused(Checks.NO_SUCH, State.MIXED, Call.peek(0, 0, wrong));
     }
   }
 
   private static void promise8Holds() {
-    FrameRow x = filled();
+    Run x = State.MIXED.run();
     due("holds: lower, upper and global", 3, x.holds(30));
     due("holds: two", 2, x.holds(20));
     due("holds: none", 0, x.holds(31));
@@ -284,13 +254,13 @@ public final class PromisesTest {
     x.cut(2, 1);
     due("holds: a frame went", 2, x.holds(30));
     due("holds: 0 in fewer slots", 56 - 7, x.holds(0));
-    for (int wrong : NO_VALUES) {
-      wrongCall("holds(" + wrong + ")", Checks.ARGUMENT, y -> y.holds(wrong));
+    for (int wrong : Wrong.VALUES) {
+      checks.dueRefused(Checks.ARGUMENT, State.MIXED, Call.holds(wrong));
     }
   }
 
   private static void promise9Root() {
-    FrameRow x = filled();
+    Run x = State.MIXED.run();
     int[] inOrder = {30, 20, 10, 20, 30, 40, 30};
     for (int k = 0; k < inOrder.length; k++) {
       due("root(" + k + ")", inOrder[k], x.root(k));
@@ -299,12 +269,12 @@ public final class PromisesTest {
     due("root: far too many", 0, x.root(Integer.MAX_VALUE));
     x.cut(0, 1);
     due("root: without the frame that went", 10, x.root(1));
-    wrongCall("root(-1)", Checks.ARGUMENT, y -> y.root(-1));
-    wrongCall("root(least)", Checks.ARGUMENT, y -> y.root(Integer.MIN_VALUE));
+    checks.dueRefused(Checks.ARGUMENT, State.MIXED, Call.root(-1));
+    checks.dueRefused(Checks.ARGUMENT, State.MIXED, Call.root(Integer.MIN_VALUE));
   }
 
   private static void promise10Turn() {
-    FrameRow x = filled();
+    Run x = State.MIXED.run();
     due("turn: three", 3, x.turn(30, 1000000));
     due("turn: lower frame", 1000000, x.peek(0, 0, 1));
     due("turn: upper frame", 1000000, x.get(2, 3));
@@ -323,7 +293,7 @@ public final class PromisesTest {
   }
 
   private static void promise10TurnAtTheEnds() {
-    FrameRow x = new FrameRow();
+    Run x = new Run();
     x.put(0, 0, 6);
     x.put(0, 23, 6);
     due("turn: first and last", 2, x.turn(6, 7));
@@ -332,16 +302,16 @@ public final class PromisesTest {
   }
 
   private static void promise10TurnWrongly() {
-    for (int wrong : NO_VALUES) {
-      wrongCall("turn(" + wrong + ", 1)", Checks.ARGUMENT, y -> y.turn(wrong, 1));
-      wrongCall("turn(30, " + wrong + ")", Checks.ARGUMENT, y -> y.turn(30, wrong));
+    for (int wrong : Wrong.VALUES) {
+      checks.dueRefused(Checks.ARGUMENT, State.MIXED, Call.turn(wrong, 1));
+      checks.dueRefused(Checks.ARGUMENT, State.MIXED, Call.turn(30, wrong));
     }
-    wrongCall("turn(0, 1)", Checks.ARGUMENT, y -> y.turn(0, 1));
-    wrongCall("turn(0, 0)", Checks.ARGUMENT, y -> y.turn(0, 0));
+    checks.dueRefused(Checks.ARGUMENT, State.MIXED, Call.turn(0, 1));
+    checks.dueRefused(Checks.ARGUMENT, State.MIXED, Call.turn(0, 0));
   }
 
   private static void promise11Renew() {
-    FrameRow x = filled();
+    Run x = State.MIXED.run();
     due("renew: four", 4, x.renew());
     int[] inOrder = {1, 2, 3, 2, 1, 4, 1, 0};
     for (int k = 0; k < inOrder.length; k++) {
@@ -355,7 +325,7 @@ public final class PromisesTest {
   }
 
   private static void promise11RenewDoesNotMixOldAndNew() {
-    FrameRow x = new FrameRow();
+    Run x = new Run();
     int[] old = {3, 1, 2, 1, 3, 1000000, 4, 2};
     int[] anew = {1, 2, 3, 2, 1, 4, 5, 3};
     for (int at = 0; at < 8; at++) {
@@ -370,7 +340,7 @@ public final class PromisesTest {
   }
 
   private static void promise11RenewForgetsFramesThatWent() {
-    FrameRow x = new FrameRow();
+    Run x = new Run();
     x.call(0);
     x.put(0, 0, 8);
     x.put(1, 0, 9);
@@ -380,7 +350,7 @@ public final class PromisesTest {
   }
 
   private static void promise12Count() {
-    FrameRow x = filled();
+    Run x = State.MIXED.run();
     due("count: frames", 6, x.count(0));
     due("count: not 0", 7, x.count(1));
     due("count: most frames", 2, x.count(2));
@@ -392,14 +362,13 @@ public final class PromisesTest {
       }
     }
     due("count: the most is not the last", 7, x.count(2));
-    int[] noCounts = {-1, 5, Integer.MIN_VALUE, Integer.MAX_VALUE};
-    for (int wrong : noCounts) {
-      wrongCall("count(" + wrong + ")", Checks.ARGUMENT, y -> y.count(wrong));
+    for (int wrong : Wrong.COUNTS) {
+      checks.dueRefused(Checks.ARGUMENT, State.MIXED, Call.count(wrong));
     }
   }
 
   private static void promise12CountOfDifferentValues() {
-    FrameRow x = new FrameRow();
+    Run x = new Run();
     x.put(0, 0, 6);
     due("count: one value", 1, x.count(4));
     x.put(0, 1, 6);
@@ -413,7 +382,7 @@ public final class PromisesTest {
   }
 
   private static void promise12CountOfCalls() {
-    FrameRow x = new FrameRow();
+    Run x = new Run();
     for (int time = 1; time <= 100; time++) {
       x.call(time % 4);
       x.leave(time % 4, 0);
@@ -424,7 +393,7 @@ public final class PromisesTest {
   }
 
   private static void allFramesThatThereCanBe() {
-    FrameRow x = new FrameRow();
+    Run x = new Run();
     for (int mutator = 0; mutator < 4; mutator++) {
       for (int frames = 2; frames <= 64; frames++) {
         due("all: frames of one", frames, x.call(mutator));
@@ -436,8 +405,7 @@ public final class PromisesTest {
     for (int mutator = 0; mutator < 4; mutator++) {
       x.put(mutator, 0, 1);
       x.put(mutator, 7, 2 + mutator);
-      int m = mutator;
-      checks.due("all: no more", "throws.IllegalStateException", Checks.answer(() -> x.call(m)));
+      checks.dueThrows(Checks.STATE, x, Call.call(mutator));
     }
     due("all: frames", 256, x.count(0));
     due("all: holds(0)", 2064 - 24, x.holds(0));
@@ -453,8 +421,8 @@ public final class PromisesTest {
   }
 
   private static void objectsAreApart() {
-    FrameRow x = new FrameRow();
-    FrameRow y = new FrameRow();
+    Run x = new Run();
+    Run y = new Run();
     x.put(0, 8, 7);
     x.call(0);
     due("apart: globals", 0, y.get(0, 8));
