@@ -371,7 +371,7 @@ public final class FrameBoundsTest {
   private static void cutOfOneToOne() {
     for (State state : ONE_FRAME) {
       for (int m = 0; m < 4; m++) {
-          due("cut of one to one", 0, state.run().cut(m, 1));
+        due("cut of one to one", 0, state.run().cut(m, 1));
         checks.dueUnchanged(state, Call.cut(m, 1));
       }
     }
