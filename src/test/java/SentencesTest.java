@@ -303,6 +303,10 @@ public final class SentencesTest {
         dueUpperFrame(x, m, 10 + slot, 999999 - 8 * m, 999998 - 8 * m, 999997 - 8 * m);
         due(x, 48, Call.count(4));
       }
+      Run y = State.FULL.run();
+      y.call(m);
+      due(y, 1, Call.leave(m, 7));
+      due(y, 0, Call.get(m, 0));
     }
 
     says("leave: NoSuchElementException: mutator or slot.");
@@ -426,6 +430,8 @@ public final class SentencesTest {
     for (int wrong : new int[] {MIN, -1, 8, MAX}) {
       dueThrows(Checks.NO_SUCH, State.TALL_FULL.run(), Call.peek(1, 27, wrong));
     }
+    dueThrows(Checks.NO_SUCH, State.TALL_FULL.run(), Call.peek(0, 1, 0));
+    dueThrows(Checks.NO_SUCH, State.TALL_FULL.run(), Call.peek(2, 27, 7));
   }
 
   private static void holds() {
